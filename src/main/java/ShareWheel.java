@@ -36,12 +36,12 @@ public final class ShareWheel {
     private static final int CHECK_START = 179;
     private static final int CHECK_FACTOR = 3;
     private static final int CHECK_MODULUS = 251;
+    private static final int MOST_INT = 0x7FFFFFFF;
     /**
-     * By the seed a PICK that refuses nearly all could go on for ever: the seed's bits come round again
-     * after 2 to the 17, so that what has not ended by so many bits hardly ever will.
+     * The seed's bits come round again after 2 to the 17 of them: a PICK, or a DRAW, that has begun anew
+     * more often than that begins where it has been, and would never end. No row of bits is as long.
      */
-    private static final int MOST_SEED_BITS = 1 << 23;
-    private static final int MOST_ROUNDS = 10000000;
+    private static final int MOST_ROUNDS = (1 << 17) + 1;
     private static final int ALL = (1 << MOST_THINGS) - 1;
 
     private static final int BY_TABLE = 0;
@@ -574,7 +574,7 @@ public final class ShareWheel {
         long whole = behind < 63 ? digits >>> behind : 0;
         boolean broken = behind < 63 ? (digits & (1L << behind) - 1) != 0 : digits != 0;
         if (whole > MOST_WEIGHT || whole == MOST_WEIGHT && broken) {
-            return turnDown(5, whole > Integer.MAX_VALUE ? 1 : 0);
+            return turnDown(5, whole > MOST_INT ? 1 : 0);
         }
         if (broken) {
             return turnDown(6, whole == 0 ? 2 : 0);
@@ -674,7 +674,7 @@ public final class ShareWheel {
         int picked = OPEN;
         Arrays.fill(tally, 0);
         for (int i = 0; i < n; i++) {
-            seedBits.start(0, MOST_SEED_BITS);
+            seedBits.start(0, MOST_INT);
             picked = picker.play(way, ALL, seedBits);
             if (picked < 0) {
                 seedBits.x = seedAhead;
@@ -1475,11 +1475,10 @@ public final class ShareWheel {
             super(new int[0]);
         }
 
-        @Override
         int next(int need) {
             int number = 0;
             for (int i = 0; i < need; i++) {
-                x = 1103515245 * x + 12345 & Integer.MAX_VALUE;
+                x = 1103515245 * x + 12345 & MOST_INT;
                 number = number << 1 | x >>> 16 & 1;
             }
             return number;
