@@ -341,7 +341,7 @@ public final class ShareWheel {
                 return what == 0 ? k : members;
             }
             int next = scales.ranked(k);
-            if (next >= 0) {
+            if (isPlace(next)) {
                 members |= 1 << next;
                 sum += scales.now[next];
             }
@@ -362,7 +362,7 @@ public final class ShareWheel {
         for (int i = 1; i < sets; i++) {
             int place = Integer.numberOfTrailingZeros(i);
             int other = place < thing ? place : place + 1;
-            int part = other < MOST_THINGS ? scales.now[other] : 0;
+            int part = isPlace(other) ? scales.now[other] : 0;
             boolean comes = ((i ^ i >>> 1) >>> place & 1) != 0;
             sum += comes ? part : -part;
             if (sum < mark && sum >= low) {
@@ -394,10 +394,10 @@ public final class ShareWheel {
     }
 
     public int band(int thing, int what) {
-        if (!isThing(thing) || scales.band[thing] < 0) {
+        int b = isThing(thing) ? scales.band[thing] : NONE;
+        if (b < 0 || b >= BANDS) {
             return NONE;
         }
-        int b = scales.band[thing];
         switch (what) {
             case 0: return b;
             case 1: return scales.bandSize[b];
@@ -655,7 +655,7 @@ public final class ShareWheel {
         }
         storedBits.start(state.from, state.to);
         int picked = picker.play(way, ALL, storedBits);
-        if (picked < 0) {
+        if (!isPlace(picked)) {
             return picked;
         }
         history.keep(state);
@@ -676,7 +676,7 @@ public final class ShareWheel {
         for (int i = 0; i < n; i++) {
             seedBits.start(0, MOST_INT);
             picked = picker.play(way, ALL, seedBits);
-            if (picked < 0) {
+            if (!isPlace(picked)) {
                 seedBits.x = seedAhead;
                 return picked;
             }
@@ -799,6 +799,11 @@ public final class ShareWheel {
 
     private boolean isTeam(int team) {
         return team >= 0 && team < plan.teams && team < MOST_TEAMS;
+    }
+
+    /** Whether rows kept for things have such an element. */
+    private static boolean isPlace(int i) {
+        return i >= 0 && i < MOST_THINGS;
     }
 
     private static boolean isWay(int way) {
@@ -979,7 +984,9 @@ public final class ShareWheel {
                 if (at >= tape.length) {
                     break;
                 }
-                if (!readStatement()) {
+                readWord();
+                boolean good = isWord("thing") ? readThing() : isWord("team") ? readTeam() : fail(1, from);
+                if (!good) {
                     return NONE;
                 }
                 statements++;
@@ -1004,22 +1011,11 @@ public final class ShareWheel {
             return readSign(';');
         }
 
-        private boolean readStatement() {
-            readWord();
-            if (isWord("thing")) {
-                return readThing();
-            }
-            if (isWord("team")) {
-                return readTeam();
-            }
-            return fail(1, from);
-        }
-
         private boolean readThing() {
             if (plan.things >= MOST_THINGS) {
                 return fail(5, from);
             }
-            if (!readNewName()) {
+            if (!readName(true)) {
                 return false;
             }
             int name = value;
@@ -1046,7 +1042,7 @@ public final class ShareWheel {
             if (plan.teams >= MOST_TEAMS) {
                 return fail(5, from);
             }
-            if (!readNewName()) {
+            if (!readName(true)) {
                 return false;
             }
             int name = value;
@@ -1056,7 +1052,7 @@ public final class ShareWheel {
             int mask = 0;
             // A 17th NAME is unknown or told twice.
             for (int i = 0; i <= MOST_THINGS; i++) {
-                if (!readName()) {
+                if (!readName(false)) {
                     return false;
                 }
                 int thing = plan.find(value);
@@ -1074,14 +1070,7 @@ public final class ShareWheel {
             return readSign(';');
         }
 
-        private boolean readNewName() {
-            if (!readName()) {
-                return false;
-            }
-            return !plan.isTaken(value) || fail(3, from);
-        }
-
-        private boolean readName() {
+        private boolean readName(boolean given) {
             readWord();
             if (size == 0 || isOwnWord()) {
                 return fail(1, from);
@@ -1094,7 +1083,7 @@ public final class ShareWheel {
                 int letter = i < size ? byteAt(tape.words, from + i) - 'a' + 1 : 0;
                 value = value << LETTER_BITS | letter;
             }
-            return true;
+            return !given || !plan.isTaken(value) || fail(3, from);
         }
 
         private boolean readKeyword(String word) {
@@ -1548,7 +1537,7 @@ public final class ShareWheel {
                     return inMore(x - base);
                 }
                 int met = byColumn(base, bits);
-                if (met < 0) {
+                if (!isPlace(met)) {
                     return OPEN;
                 }
                 int less = scales.byGrain(scales.less(met));
@@ -1565,7 +1554,7 @@ public final class ShareWheel {
 
         private int byColumn(int base, Bits bits) {
             int column = bits.draw(scales.columns());
-            if (column < 0 || column >= MOST_THINGS) {
+            if (!isPlace(column)) {
                 return OPEN;
             }
             int x = bits.draw(base);
@@ -1604,7 +1593,7 @@ public final class ShareWheel {
                     return OPEN;
                 }
                 int met = inBand(b, k);
-                if (met >= 0 && y < scales.part[met]) {
+                if (isPlace(met) && y < scales.part[met]) {
                     return met;
                 }
             }

@@ -44,6 +44,9 @@ public final class PromiseTest {
         mergeAndMerged();
         storeAndPick();
         storeIsBounded();
+        storeKeepsItsOrder();
+        leastWeights();
+        dealOfSixteen();
         chance();
         undo();
         seeds();
@@ -186,6 +189,21 @@ public final class PromiseTest {
         x.end(3);
         due("tries of 11111111000000..", x.tries(1, 0), 1);
         due("tries of no bits", x.tries(1, 0), OPEN);
+        // What was cut off is not read any more.
+        x.feed(0x77686565, 0x6C206D65, 0x72676520, 0x313B2020, 0x20202020);
+        x.end(13);
+        due("wheel() without its last sign", x.wheel(), NONE);
+        due("fault(1)", x.fault(1), 13);
+        x.feed(0x77686565, 0x6C206D65, 0x72676520, 0x313B2020, 0x20202020);
+        x.end(12);
+        due("wheel() without its number", x.wheel(), NONE);
+        due("fault(1)", x.fault(1), 12);
+        // The last bytes of a full tape count like others.
+        StringBuilder far = new StringBuilder(" ".repeat(1200 - TWO.length())).append(TWO);
+        due("wheel() at the tape's end", tell(x, far.toString()), 3);
+        far.setCharAt(1199, 'x');
+        due("wheel() at the tape's end", tell(x, far.toString()), NONE);
+        due("fault(1)", x.fault(1), 1199);
     }
 
     private static void wheelTexts() {
@@ -1030,6 +1048,23 @@ public final class PromiseTest {
         x.see(1);
         due("without FITS", x.fits(NONE), 0);
         due("without FITS", x.tells(0), NONE);
+        // 254 and the unknown one ahead of it: eight bits; by 0 it is a, if a has one; by 1, if it has two.
+        x = made("wheel merge 16;thing a weighs 1;thing b weighs 254;");
+        feedBytes(x, 1, 1);
+        x.see(0);
+        due("0 or 1 fits", x.fits(NONE), 2);
+        due("tells(0)", x.tells(0), 0);
+        due("tells(1)", x.tells(1), 1);
+        feedBytes(x, 0, 0, 2, 1);
+        x.see(0);
+        due("1 or 2 fits", x.fits(NONE), 2);
+        due("tells(0)", x.tells(0), 1);
+        due("tells(1)", x.tells(1), 1);
+        feedBytes(x, 2, 1);
+        x.see(0);
+        due("0, 1 or 2 fits", x.fits(NONE), 3);
+        due("tells(0)", x.tells(0), 0);
+        due("tells(1)", x.tells(1), 2);
     }
 
     private static void setRefused(ShareWheel x, int thing, long bits, int reason, int cause) {
@@ -1227,6 +1262,124 @@ public final class PromiseTest {
         due("10101, 01010 by turns: b all times", counted, 60);
         due("one more than there is room for", storeBytes(x, new int[39]), NONE);
         due("as many as there is room for", storeBytes(x, new int[37]), left - 300 + 296);
+    }
+
+    /** Four things by 2 to the 24 parts: three bytes of 0 are a, of 255 d, 128 and 0 are b. */
+    private static void storeKeepsItsOrder() {
+        promise = 41;
+        ShareWheel x = made("wheel merge 4;thing a weighs 8192;thing b weighs 8191;"
+                + "thing c weighs 1023 by 1024;thing d weighs 1 by 1024;");
+        int[] first = new int[399];
+        for (int i = 0; i < first.length; i++) {
+            first[i] = i % 12 < 3 ? 0 : i % 12 < 6 ? 255 : i % 3 == 0 ? 128 : 0;
+        }
+        int[] want = {0, 3, 1, 1};
+        due("store()", storeBytes(x, first), 3192);
+        for (int i = 0; i < 100; i++) {
+            due("pick " + i, x.pick(1), want[i % 4]);
+        }
+        due("store()", storeBytes(x, java.util.Arrays.copyOf(first, 300)), 792 + 2400);
+        promise = 44;
+        due("undo()", x.undo(), true);
+        due("has(9)", x.has(9), 792);
+        promise = 41;
+        due("store()", storeBytes(x, java.util.Arrays.copyOf(first, 300)), 792 + 2400);
+        for (int i = 0; i < 33; i++) {
+            due("pick " + i, x.pick(1), want[i % 4]);
+        }
+        for (int i = 0; i < 100; i++) {
+            due("pick " + i, x.pick(1), want[i % 4]);
+        }
+        due("no bits", x.pick(1), OPEN);
+        due("has(9)", x.has(9), 0);
+        due("has(11)", x.has(11), 3192 + 2400);
+        // 3200 bits of which the first seven went leave no room for eight more.
+        x = made("wheel merge 1;thing a weighs 1;thing b weighs 1;");
+        storeBytes(x, new int[400]);
+        for (int i = 0; i < 7; i++) {
+            x.pick(1);
+        }
+        due("with 3193", storeBytes(x, 255), NONE);
+        x.pick(1);
+        due("with 3192", storeBytes(x, 255), 3200);
+        // Bits across the last words: one bit went, 3199 are read by 24.
+        x = made("wheel merge 16;thing a weighs 8192;thing b weighs 8191;"
+                + "thing c weighs 1023 by 1024;thing d weighs 1 by 1024;");
+        int[] full = new int[400];
+        java.util.Arrays.fill(full, 255);
+        storeBytes(x, full);
+        for (int i = 0; i < 133; i++) {
+            due("pick " + i, x.pick(1), 3);
+        }
+        due("has(9)", x.has(9), 8);
+        due("with the store's end", storeBytes(x, 255, 254), 24);
+        due("111111111111111111111110", x.pick(1), 2);
+    }
+
+    private static void leastWeights() {
+        ShareWheel x = made("wheel merge 1;thing a weighs 1 by 1024;team t of a;");
+        promise = 13;
+        due("share(0, 0)", x.share(0, 0), 1);
+        due("share(0, 1)", x.share(0, 1), 1);
+        promise = 18;
+        due("owed(0)", x.owed(0), 0);
+        promise = 19;
+        due("creditor(0)", x.creditor(0), 0);
+        promise = 22;
+        due("inside(0, 0, 1)", x.inside(0, 0, 1), 1);
+        promise = 23;
+        due("triesIn(0, 0)", x.triesIn(0, 0), 0);
+        promise = 25;
+        due("quorum(1, 1, 0)", x.quorum(1, 1, 0), 1);
+        promise = 26;
+        due("swings(0, 1, 1)", x.swings(0, 1, 1), 1);
+        promise = 27;
+        due("tries(0, 0)", x.tries(0, 0), 0);
+        promise = 29;
+        due("deals(0)", x.deals(0), 0);
+        due("deals(1)", x.deals(1), NONE);
+        promise = 30;
+        due("pairs(3, 0, 0)", x.pairs(3, 0, 0), 0);
+        promise = 31;
+        due("rows(1, 3, 0)", x.rows(1, 3, 0), 8);
+        promise = 32;
+        due("fewest(2, 0, 0)", x.fewest(2, 0, 0), 1);
+        promise = 33;
+        due("longest(2, 3, 1)", x.longest(2, 3, 1), 3);
+        due("longest(2, 3, 0)", x.longest(2, 3, 0), 6);
+        promise = 42;
+        due("pick(0)", x.pick(0), 0);
+        promise = 43;
+        due("chance(1, 1)", x.chance(1, 1), 0);
+        promise = 26;
+        x = made("wheel merge 1;thing a weighs 1 by 1024;thing b weighs 1 by 1024;");
+        due("swings(0, 1, 2)", x.swings(0, 1, 2), 1);
+        due("swings(1, 1, 1)", x.swings(1, 1, 1), 1);
+        promise = 17;
+        due("merges(0, 0)", x.merges(0, 0), 1);
+        due("merges(0, 1)", x.merges(0, 1), 0);
+    }
+
+    private static void dealOfSixteen() {
+        promise = 29;
+        StringBuilder many = new StringBuilder("wheel merge 1;");
+        for (char c = 'a'; c < 'q'; c++) {
+            many.append("thing ").append(c).append(" weighs 1;");
+        }
+        ShareWheel x = made(many.toString());
+        for (int k = 0; k < 16; k++) {
+            due("deals(" + k + ") of 0", deal(x, k, new int[8]), k);
+        }
+        due("deals(16) of 0", deal(x, 16, new int[8]), NONE);
+        promise = 31;
+        due("rows(1, 12, 15)", x.rows(1, 12, 15), 256);
+        due("rows(0, 12, 15)", x.rows(0, 12, 15), 256);
+        due("rows(2, 12, 15) of nine bits", x.rows(2, 9, 15), 16);
+        promise = 46;
+        due("image()", x.image(), 130);
+        promise = 47;
+        due("octet(127)", x.octet(127), 4);
+        due("octet(130)", x.octet(130), NONE);
     }
 
     private static void chance() {
@@ -1433,7 +1586,8 @@ public final class PromiseTest {
         due("too great a weight", takeOn(x, imageOf(1, 1, 1, 10238977, 1)), false);
         due("too great a weight", takeOn(x, imageOf(1, 1, 1, 1, 10238977)), false);
         due("a weight below 0", takeOn(x, imageOf(1, -1, 1, 1, 1)), false);
-        due("status(5)", x.status(5), 10);
+        due("the highest bit", takeOn(x, imageOf(1, 1, 1, 0x80000001, 1)), false);
+        due("status(5)", x.status(5), 11);
         due("all stays", x.has(9), 24);
         due("all stays", x.has(2), 5120);
         due("on()", takeOn(x, good), true);
