@@ -8,6 +8,7 @@ public final class ActEdgeTest extends Desk {
     public static void main(String[] args) {
         storeMost();
         storeBehindPicks();
+        storeTurnsRound();
         storeNone();
         pickAsked();
         chanceOneAndSixty();
@@ -89,23 +90,55 @@ public final class ActEdgeTest extends Desk {
         due("a byte behind none", store(x, 0x9C), 8);
         due("9", x.pick(1), 9);
         due("c", x.pick(1), 12);
+    }
+
+    /** A byte at a time, of which the higher half is the THING: 256 parts, sixteen for each but the last two. */
+    private static void storeTurnsRound() {
+        by("II: 3200 bits that begin anywhere are taken in order, to the last one");
+        String[] weights = new String[16];
+        Arrays.fill(weights, "16");
+        weights[14] = "17";
+        weights[15] = "15";
+        int[] bytes = new int[450];
+        for (int i = 0; i < bytes.length; i++) {
+            bytes[i] = (i * i * 5 + i * 3 + i / 7) % 14 << 4 | i % 16;
+        }
+        for (int gone : new int[] {1, 2, 3, 4, 5, 7, 8, 9}) {
+            ShareWheel x = told(text(16, weights));
+            due("3200 bits", store(x, Arrays.copyOf(bytes, 400)), 3200);
+            for (int i = 0; i < gone; i++) {
+                due("byte " + i, x.pick(1), bytes[i] >> 4);
+            }
+            due(gone + " bytes behind them", store(x, Arrays.copyOfRange(bytes, 400, 400 + gone)), 3200);
+            for (int i = gone; i < 400 + gone; i++) {
+                due("byte " + i, x.pick(1), bytes[i] >> 4);
+            }
+            due("none is left", x.pick(1), OPEN);
+        }
+        // 2 to the 24 parts: the last PICK takes the last byte of the first tape and two of the other.
+        ShareWheel far = told(text(16, "8192", "8191", "1023 by 1024", "1 by 1024"));
+        due("3200 bits", store(far, alike(400, 255)), 3200);
+        due("111 .. 111", far.pick(1), 3);
+        due("three bytes behind them", store(far, 255, 254, 0), 3200);
+        for (int i = 0; i < 132; i++) {
+            due("111 .. 111", far.pick(1), 3);
+        }
+        due("111 .. 110", far.pick(1), 2);
+        due("has(9)", far.has(9), 8);
         by("41: over and over, as long as there is room");
-        x = told(sixteen(16, "1"));
-        int[] bytes = new int[200];
-        for (int i = 0; i < 200; i++) {
-            bytes[i] = (2 * i & 15) << 4 | 2 * i + 1 & 15;
+        ShareWheel x = told(text(16, weights));
+        int stored = 0;
+        int taken = 0;
+        for (int round = 0; round < 12; round++) {
+            int more = round % 2 == 0 ? 40 : 31;
+            due("store()", store(x, Arrays.copyOfRange(bytes, stored, stored + more)), 8 * (stored + more - taken));
+            stored += more;
+            for (int i = 0; i < 29; i++) {
+                due("byte " + taken, x.pick(1), bytes[taken] >> 4);
+                taken++;
+            }
         }
-        due("1600 bits", store(x, bytes), 1600);
-        for (int i = 0; i < 130; i++) {
-            due("half a byte " + i, x.pick(1), i & 15);
-        }
-        due("as many again", store(x, bytes), 2680);
-        for (int i = 130; i < 400; i++) {
-            due("half a byte " + i, x.pick(1), i & 15);
-        }
-        due("has(9)", x.has(9), 1600);
-        due("the first of the others", x.pick(1), 0);
-        due("the second of the others", x.pick(1), 1);
+        due("has(11)", x.has(11), 8 * taken);
     }
 
     private static void storeNone() {
@@ -251,6 +284,22 @@ public final class ActEdgeTest extends Desk {
             due("seed(" + w[0] + ")", x.seed(w[0]), true);
             due("chance(1, 1)", x.chance(1, 1), w[2]);
             due("has(14)", x.has(14), w[1]);
+        }
+        by("II: DRAWS by the seed: the first bit the highest");
+        // The seed 1 gives 0011 1101 0010 ..: worked out one by one here.
+        ShareWheel y = told(sixteen(16, "1"));
+        long seed = 1;
+        for (int i = 0; i < 30; i++) {
+            int drawn = 0;
+            for (int k = 0; k < 4; k++) {
+                seed = (1103515245L * seed + 12345) % 2147483648L;
+                drawn = 2 * drawn + (int) (seed / 65536 % 2);
+            }
+            if (i < 2) {
+                due("by hand", drawn, i == 0 ? 0b0011 : 0b1101);
+            }
+            due("chance(1, 1) no. " + i, y.chance(1, 1), drawn);
+            due("has(14)", y.has(14), seed);
         }
     }
 
@@ -553,6 +602,11 @@ public final class ActEdgeTest extends Desk {
         see(x, 0, 0, 0);
         due("1 and on: it alone", x.fits(NONE), 31);
         due("1", x.fits(0), 1);
+        by("III: with the least TOTAL all is");
+        x = told(text(16, "1 by 1024", "0"));
+        see(x, 1, 0, 0);
+        due("0: a has the one part", x.fits(0), 0);
+        due("others ask for more than eight bits", x.fits(NONE), 1);
         by("III: others as they are; its own NEW is of no matter");
         x = told(text(16, "1", "5", "0"));
         see(x, 1, 0x80, 1);
@@ -592,6 +646,14 @@ public final class ActEdgeTest extends Desk {
         see(x, 1, 0xC0, 0, 0x20, 1, 0x10, 0, 0xA0, 1);
         due("one alone: the least byte", x.tells(0), 0);
         due("one alone", x.tells(1), 1);
+        // One THING alone: by 30 and 31 five bits are asked; 30 is OPEN by 11110, 31 is not. 11111 is OPEN by 5, 6
+        // and 17 on, 11101 a THING by 5, 6, 30 and 31, 110 110 a THING by 30 and 31.
+        ShareWheel alone = told(text(16, "1"));
+        due("see()", see(alone, 0, 0xF8, 255, 0xE8, 0, 0xD8, 0), 3);
+        due("30 and 31 fit", alone.fits(NONE), 2);
+        due("30 and 31 fit", alone.fits(0), 30);
+        due("OPEN tells from a THING", alone.tells(0), 0xF0);
+        due("OPEN tells from a THING", alone.tells(1), 1);
         // By 0 there is one part; by others more than eight bits are asked.
         ShareWheel y = told(text(16, "9999", "0"));
         see(y, 1, 255, 255);

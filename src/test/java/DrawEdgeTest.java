@@ -312,6 +312,10 @@ public final class DrawEdgeTest extends Desk {
         openBelow(changed(), 0, "1000", 1);
         openBelow(changed(), 1, "111 001", 0);
         openBelow(changed(), 2, "000 00", 0);
+        // One THING, OLD 4, NEW 5: a DRAW of 5 is longer than one of a column and of 4 together.
+        ShareWheel alone = told(text(16, "4"));
+        weigh(alone, 0, 5120);
+        openBelow(alone, 0, "011 11", 0);
         // BANDS: b, d in 0; c in 1; a in 2; parts 2, 2, 4 of 8.
         String text = text(16, "4", "1", "2", "1");
         openBelow(told(text), 1, "100", 1);
@@ -329,6 +333,8 @@ public final class DrawEdgeTest extends Desk {
         dueTapeGone(x);
         due("way -1", tries(x, -1, 0, "0"), NONE);
         dueTapeGone(x);
+        due("way 3, bits", tries(x, 3, 1, "0"), NONE);
+        due("way -1, bits", tries(x, -1, 1, "0"), NONE);
         due("what 2", tries(x, 1, 2, "0"), NONE);
         dueTapeGone(x);
         due("what -1", tries(x, 1, -1, "0"), NONE);

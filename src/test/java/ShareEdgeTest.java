@@ -259,6 +259,13 @@ public final class ShareEdgeTest extends Desk {
         due("one without weight counts as well", x.creditor(1), 0);
         x.chance(5, 1);
         due("OWED 0 and 0", x.creditor(0), 0);
+        x = told(sixteen(16, "9999"));
+        tell(x, text(16, "1", "1"));
+        x.chance(60, 1);
+        due("THINGS of a wheel ahead are none", x.creditor(0) < 2, true);
+        due("THINGS of a wheel ahead are none", x.creditor(1) < 2, true);
+        due("the two are unlike", x.creditor(0) != x.creditor(1) || x.owed(0) == x.owed(1), true);
+        x = told(text(16, "1", "0"));
         by("19: NONE without a TOTAL, or for others");
         ShareWheel y = x;
         due("creditor(2)", x.creditor(2), NONE);

@@ -471,6 +471,15 @@ public final class TextEdgeTest extends Desk {
         faulty(ONE + "team b off a;", 1, 38);
         faulty(ONE + "team b a;", 1, 38);
         faulty(ONE + "team b of a of a;", 1, 43);
+        by("I: 1 .. words whole: each of their letters");
+        for (String own : OWN_WORDS) {
+            for (int i = 0; i < own.length(); i++) {
+                String other = own.substring(0, i) + "x" + own.substring(i + 1);
+                int at = TIGHT.indexOf(own);
+                faulty(TIGHT.substring(0, at) + other + TIGHT.substring(at + own.length()), 1, at);
+                good(HEAD + "thing " + other + " weighs 1;team xx of " + other + ";", 3);
+            }
+        }
     }
 
     private static void firstAlongTheText() {
@@ -551,6 +560,13 @@ public final class TextEdgeTest extends Desk {
         due("pick(1)", x.pick(1), 0);
         due("why(0) stays", x.why(0), 2);
         due("octet(4) stays", x.octet(4), octet);
+        by("I: NAMES of a wheel ahead, or of a text with a FAULT, are free");
+        x = told(ONE + "team b of a;");
+        due("a THING's for a TEAM, a TEAM's for a THING", tell(x, HEAD + "thing b weighs 1;team a of b;"), 3);
+        due("behind a FAULT", tell(x, HEAD + "thing c weighs 1;team d of c;x"), NONE);
+        due("behind a FAULT", tell(x, HEAD + "thing d weighs 1;thing c weighs 1;team a of d;"), 4);
+        due("no THING any more", tell(x, HEAD + "thing z weighs 1;team y of d;"), NONE);
+        due("fault(0)", x.fault(0), 3);
         by("1: No wheel, no things; the seed is 1");
         x = new ShareWheel();
         due("has(14)", x.has(14), 1);

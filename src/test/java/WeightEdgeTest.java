@@ -407,6 +407,15 @@ public final class WeightEdgeTest extends Desk {
         due("another one", x.merges(2, MOST), 1);
         due("the number 0", told(text(0, "4", "4")).merges(0, 4097), 1);
         due("the number 0, alike", told(text(0, "4", "4")).merges(0, 4096), 0);
+        by("17: behind on(), by which more THINGS than that can be unlike");
+        ShareWheel taken = told(text(0, "4", "4"));
+        due("on()", on(taken, image(0, 4096, 4097, 4096, 4096)), true);
+        due("another weight of the unlike one", taken.merges(0, 4098), 1);
+        due("its OLD weight", taken.merges(0, 4096), 0);
+        due("a weight of another", taken.merges(1, 4097), 1);
+        due("on()", on(taken, image(1, 4096, 4097, 4096, 4097)), true);
+        due("another weight of one of two", taken.merges(0, 4098), 1);
+        due("the OLD weight of one of two", taken.merges(0, 4096), 0);
         by("17: nothing is changed by the question");
         due("has(8)", x.has(8), 0);
         due("has(13)", x.has(13), 1);
