@@ -31,6 +31,7 @@ public final class DrawEdgeTest extends Desk {
         rowsAsked();
         fewestAsked();
         longestAsked();
+        lastRowAlone();
         close("DrawEdgeTest");
     }
 
@@ -739,5 +740,22 @@ public final class DrawEdgeTest extends Desk {
         dueFar("longest(1, 2, ..)", k -> x.longest(1, 2, k), NONE);
         due("without a TOTAL", told(text(2, "0")).longest(1, 2, 0), NONE);
         due("without a wheel", new ShareWheel().longest(1, 2, 0), NONE);
+    }
+
+    /** T is 4095 and P 1: all rows of 12 bits but the last one lack bits for OWN. */
+    private static void lastRowAlone() {
+        by("31, 32, 33: of all ROWS of 12 bits the last one alone comes to a THING");
+        ShareWheel x = told(text(2, "4095 by 1024"));
+        weigh(x, 0, 4096);
+        due("T", x.has(3), 4095);
+        due("P", x.has(4), 1);
+        due("rows(0, 12, 0)", x.rows(0, 12, 0), 1);
+        due("rows(0, 12, NONE)", x.rows(0, 12, NONE), 4095);
+        due("rows(0, 11, 0)", x.rows(0, 11, 0), 0);
+        due("fewest(0, 0, 0)", x.fewest(0, 0, 0), 12);
+        due("fewest(0, 0, 1)", x.fewest(0, 0, 1), 4095);
+        due("longest(0, 12, 0)", x.longest(0, 12, 0), 4095);
+        due("longest(0, 12, 1)", x.longest(0, 12, 1), 12);
+        due("longest(0, 11, 0)", x.longest(0, 11, 0), NONE);
     }
 }
