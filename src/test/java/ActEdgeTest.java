@@ -591,6 +591,13 @@ public final class ActEdgeTest extends Desk {
         due("0 as well: a alone, without bits", x.fits(NONE), 32);
         due("0", x.fits(0), 0);
         due("31", x.fits(31), 31);
+        due("no 33rd one", x.fits(32), NONE);
+        see(x, 1, 0, 0, 0b01000000, 0);
+        // Behind 1 a byte that begins with 01 is b's, or none's: 0 and 1 alone are left.
+        due("0 and 1", x.fits(NONE), 2);
+        due("0", x.fits(0), 0);
+        due("1", x.fits(1), 1);
+        due("no third one", x.fits(2), NONE);
         // 31 and 1: five bits; 11111 is the last of 32.
         see(x, 1, 0b11111000, 1, 0b10000000, 1);
         due("31 at the end", x.fits(x.fits(NONE) - 1), 31);

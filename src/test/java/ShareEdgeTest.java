@@ -19,6 +19,9 @@ public final class ShareEdgeTest extends Desk {
         quorumNone();
         swings();
         swingsNone();
+        byNewAlone();
+        sameAsTold();
+        leastTotal();
         close("ShareEdgeTest");
     }
 
@@ -431,5 +434,82 @@ public final class ShareEdgeTest extends Desk {
         dueFar("swings(0, 1, ..)", k -> x.swings(0, 1, k), NONE);
         due("without a TOTAL", told(text(2, "0")).swings(0, 1, 2), NONE);
         due("without a wheel", new ShareWheel().swings(0, 1, 2), NONE);
+    }
+
+    // ---- OLD and NEW apart
+
+    private static final String TEAMS = "team x of a,b;team y of d,c;";
+
+    /** OLD are 4, 4, 4, 4, NEW 1, 8, 6, 4: Q is 3 of 16, so that there is no MERGING. */
+    private static ShareWheel apart() {
+        ShareWheel x = told(text(16, "4", "4", "4", "4") + TEAMS);
+        weigh(x, 0, 1024);
+        weigh(x, 1, 8192);
+        weigh(x, 2, 6144);
+        due("no MERGING", x.has(8), 0);
+        due("T", x.has(3), 16384);
+        due("TOTAL", x.has(2), 19456);
+        return x;
+    }
+
+    private static void byNewAlone() {
+        by("III: A SHARE of a THING is NEW by TOTAL, whatever OLD is");
+        ShareWheel x = apart();
+        fraction("b", x.share(1, 0), x.share(1, 1), 8, 19);
+        fraction("b, were d 5", x.would(3, 5120, 1, 0), x.would(3, 5120, 1, 1), 2, 5);
+        fraction("b, were b 1", x.would(1, 1024, 1, 0), x.would(1, 1024, 1, 1), 1, 12);
+        needed(x, 0, 1, 2, 18432);
+        needed(x, 1, 1, 2, 11264);
+        due("b and c have 14 of 19", x.quorum(14, 19, 0), 2);
+        due("b and c have 14 of 19", x.quorum(14, 19, 1), 6);
+        due("more than 14 of 19", x.quorum(15, 19, 1), 14);
+        // 10 of 19: b with {c}, {d}, {a, c}, {a, d}; {c, d} has 10 without it.
+        due("swings(1, 10, 19)", x.swings(1, 10, 19), 4);
+        // 9 of 19: a with {b} alone.
+        due("swings(0, 9, 19)", x.swings(0, 9, 19), 1);
+        fraction("b in x", x.inside(0, 1, 0), x.inside(0, 1, 1), 8, 9);
+        due("NEW of y", x.team(1, 1), 10240);
+        due("the greatest of y", x.team(1, 3), 2);
+    }
+
+    /** What OLD does not matter to is answered as by a wheel that was told with these weights. */
+    private static void sameAsTold() {
+        by("III, II: SHARES, QUOTAS, TEAMS, WAYS 1 and 2, DEALS are by NEW alone, GRAIN being the same");
+        ShareWheel x = apart();
+        ShareWheel y = told(text(16, "1", "8", "6", "4") + TEAMS);
+        due("GRAIN", x.has(6), y.has(6));
+        for (int t = 0; t < 4; t++) {
+            for (int k = 0; k < 4; k++) {
+                due("rank, team", x.rank(k) * 10 + x.team(k % 2, 1 + k), y.rank(k) * 10 + y.team(k % 2, 1 + k));
+                due("band", x.band(t, k), y.band(t, k));
+                due("would(" + t + ", 3000, " + k + ", 0)", x.would(t, 3000, k, 0), y.would(t, 3000, k, 0));
+                due("would(" + t + ", 3000, " + k + ", 1)", x.would(t, 3000, k, 1), y.would(t, 3000, k, 1));
+                due("pairs(9, " + t + ", " + k + ")", x.pairs(9, t, k), y.pairs(9, t, k));
+                due("rowsIn(" + k % 2 + ", 7, " + t + ")", x.rowsIn(k % 2, 7, t), y.rowsIn(k % 2, 7, t));
+                due("swings(" + t + ", " + k + ", 5)", x.swings(t, k, 5), y.swings(t, k, 5));
+                due("needs(" + t + ", " + k + ", 7)", x.needs(t, k, 7), y.needs(t, k, 7));
+                due("quorum(" + (4 * t + k) + ", 19, 1)", x.quorum(4 * t + k, 19, 1), y.quorum(4 * t + k, 19, 1));
+            }
+            for (int way = 1; way < 3; way++) {
+                due("rows(" + way + ", 10, " + t + ")", x.rows(way, 10, t), y.rows(way, 10, t));
+                due("fewest(" + way + ", " + t + ", 1)", x.fewest(way, t, 1), y.fewest(way, t, 1));
+            }
+        }
+    }
+
+    private static void leastTotal() {
+        by("18, 19: OWED with a TOTAL of a single 1024th");
+        ShareWheel x = told(text(16, "0", "1"));
+        due("chance(3, 1)", x.chance(3, 1), 1);
+        weigh(x, 0, 1);
+        weigh(x, 1, 0);
+        due("TOTAL", x.has(2), 1);
+        due("all of 3 to a", x.owed(0), 3);
+        due("none to b, less 3", x.owed(1), -3);
+        due("creditor(0)", x.creditor(0), 0);
+        due("creditor(1)", x.creditor(1), 1);
+        fraction("a", x.share(0, 0), x.share(0, 1), 1, 1);
+        due("quorum(1, 1, 1)", x.quorum(1, 1, 1), 1);
+        due("swings(0, 1, 1000)", x.swings(0, 1, 1000), 2);
     }
 }
